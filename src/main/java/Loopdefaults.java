@@ -235,9 +235,9 @@ public final class Loopdefaults {
   }
 
   public int takeStep(int from, int to) throws IllegalArgumentException {
-    checkValue(from);
     checkValue(to);
     checkRange(from, -GREATEST, to);
+    // No WALK of a SPAN can take one away.
     return refused();
   }
 

@@ -56,6 +56,7 @@ public final class SpansTest {
     check.due("hearSteps", x.hearSteps(1, 9, 2, 0, 0), 5);
     check.due("hearSteps", x.hearSteps(1, 9, 2, 3, 0), 2);
     check.due("hearSteps, all passed by", x.hearSteps(1, 9, 2, 5, 0), 0);
+    check.due("hearSteps of one, passed by", x.hearSteps(4, 4, 9, 1, 0), 0);
     check.due("hearSteps of none", x.hearSteps(9, 1, 2, 0, 0), 0);
     check.due("heardText", x.heardText(0), "1 3 5 7 9 7 9");
     x.stop(0, 5);
@@ -66,6 +67,7 @@ public final class SpansTest {
     check.due("forgetCounts", x.forgetCounts(), 0);
     check.dueArgument(x, "ahead 6", () -> x.hearSteps(1, 9, 2, 6, 0));
     check.dueArgument(x, "ahead -1", () -> x.hearSteps(1, 9, 2, -1, 0));
+    check.dueArgument(x, "ahead 2 of one", () -> x.hearSteps(4, 4, 9, 2, 0));
     check.dueArgument(x, "ahead 1 of none", () -> x.hearSteps(9, 1, 2, 1, 0));
     check.dueArgument(x, "41 of them", () -> x.hearSteps(0, 40, 1, 40, 0));
     check.dueArgument(x, "by 0", () -> x.hearSteps(0, 0, 0, 0, 0));

@@ -363,10 +363,12 @@ public final class TablesTest {
   private static void clear() {
     check.promise(22);
     for (int t = 0; t < 3; t++) {
-      Loopdefaults x = Check.withTables(5, 7, 0, -1, 3, 1);
+      Loopdefaults x = Check.withTables(19, 7, 0, -1, 3, 1);
       check.due("clear", x.clear(t), 3);
       check.due("text", x.text(t), "");
-      check.due("has", x.has(t, 5), false);
+      for (int key = 0; key < 20; key++) {
+        check.due("get of " + key, x.get(t, key), -1000);
+      }
       check.due("house(1)", x.house(1), 6);
       check.due("clear again", x.clear(t), 0);
       check.due("put behind", x.put(t, 3, 2), -1000);
