@@ -166,33 +166,25 @@ public final class Loopdefaults {
 
   public int computeIfAbsent(int table, int key, int rule, int number)
       throws IndexOutOfBoundsException, IllegalArgumentException {
-    Table told = tableFor(table, key);
-    checkRange(rule, 0, LAST_RULE);
-    checkValue(number);
+    Table told = tableToReckon(table, key, rule, number);
     return answer(told.reckonAbsent(key, rule, number));
   }
 
   public int computeIfPresent(int table, int key, int rule, int number)
       throws IndexOutOfBoundsException, IllegalArgumentException {
-    Table told = tableFor(table, key);
-    checkRange(rule, 0, LAST_RULE);
-    checkValue(number);
+    Table told = tableToReckon(table, key, rule, number);
     return answer(told.reckonPresent(key, rule, number));
   }
 
   public int compute(int table, int key, int rule, int number)
       throws IndexOutOfBoundsException, IllegalArgumentException {
-    Table told = tableFor(table, key);
-    checkRange(rule, 0, LAST_RULE);
-    checkValue(number);
+    Table told = tableToReckon(table, key, rule, number);
     return answer(told.reckon(key, rule, number));
   }
 
   public int merge(int table, int key, int value, int rule)
       throws IndexOutOfBoundsException, IllegalArgumentException {
-    Table told = tableFor(table, key);
-    checkValue(value);
-    checkRange(rule, 0, LAST_RULE);
+    Table told = tableToReckon(table, key, rule, value);
     return answer(told.join(key, value, rule));
   }
 
@@ -435,6 +427,13 @@ public final class Loopdefaults {
   private Table tableFor(int table, int key) {
     Table found = tableFor(table);
     checkKey(key);
+    return found;
+  }
+
+  private Table tableToReckon(int table, int key, int rule, int number) {
+    Table found = tableFor(table, key);
+    checkRange(rule, 0, LAST_RULE);
+    checkValue(number);
     return found;
   }
 
