@@ -34,6 +34,7 @@ public final class Loopdefaults {
   private final Hearer[] hearers;
   // What isSound() tries things on; made once, so that many calls of it make little.
   private final Row trialRow;
+  private final Table trialShelf;
   private final Table[] trialTables;
   private int refusals;
   private int knocks;
@@ -44,7 +45,8 @@ public final class Loopdefaults {
     tables = new Table[] {shelf, new Table(false), new Table(true)};
     hearers = new Hearer[] {new Hearer(), new Hearer()};
     trialRow = new Row();
-    trialTables = new Table[] {new Table(false), new Table(false), new Table(true)};
+    trialShelf = new Table(false);
+    trialTables = new Table[] {trialShelf, new Table(false), new Table(true)};
   }
 
   // ---- rows
@@ -675,9 +677,8 @@ public final class Loopdefaults {
     return true;
   }
 
-  /** Whether the copies on the other kinds tell and leave what the one on the first kind does. */
+  /** Whether the copies on the other kinds tell and leave what the one on the SHELF's does. */
   private boolean isCallLike(Table table, int call, int key, int rule) {
-    Table first = trialTables[0];
     int due = 0;
     for (Table trial : trialTables) {
       trial.become(table);
@@ -696,9 +697,9 @@ public final class Loopdefaults {
           told = trial.join(key, 1, rule);
           break;
       }
-      if (trial == first) {
+      if (trial == trialShelf) {
         due = told;
-      } else if (told != due || !trial.hasPairsOf(first)) {
+      } else if (told != due || !trial.hasPairsOf(trialShelf)) {
         return false;
       }
     }
@@ -738,6 +739,12 @@ public final class Loopdefaults {
       mix = mixed(mix, hearer.tells(what));
     }
     return mixed(mix, hearer.recent().length());
+  }
+
+  private static void takeOver(int[] numbers, int[] others) {
+    for (int place = 0; place < numbers.length && place < others.length; place++) {
+      numbers[place] = others[place];
+    }
   }
 
   /** The first ones of the numbers, with one blank between. */
@@ -825,9 +832,7 @@ public final class Loopdefaults {
     }
 
     void become(Row other) {
-      for (int place = 0; place < values.length && place < other.values.length; place++) {
-        values[place] = other.values[place];
-      }
+      takeOver(values, other.values);
       many = other.many;
     }
   }
@@ -917,10 +922,8 @@ public final class Loopdefaults {
     }
 
     void become(Table other) {
-      for (int i = 0; i < values.length && i < other.values.length; i++) {
-        values[i] = other.values[i];
-        sequence[i] = other.sequence[i];
-      }
+      takeOver(values, other.values);
+      takeOver(sequence, other.sequence);
       many = other.many;
       if (isSorted) {
         sortKeys();
@@ -1019,15 +1022,20 @@ public final class Loopdefaults {
     }
 
     private void keep(int number) {
+      if (kept >= latest.length) {
+        dropOldest();
+      }
       if (kept >= 0 && kept < latest.length) {
         latest[kept] = number;
         kept++;
-        return;
       }
+    }
+
+    private void dropOldest() {
       for (int place = 1; place < latest.length; place++) {
         latest[place - 1] = latest[place];
       }
-      latest[latest.length - 1] = number;
+      kept--;
     }
 
     void beginAnew() {

@@ -199,7 +199,8 @@ public final class ModelTest {
     }
   }
 
-  private static Object answer(Object on, Method method, Object[] with) throws Exception {
+  /** What the call tells, or the name of what it throws; on may be an object or a model. */
+  static Object answer(Object on, Method method, Object[] with) throws Exception {
     Method own =
         on instanceof Model
             ? Model.class.getDeclaredMethod(method.getName(), method.getParameterTypes())
