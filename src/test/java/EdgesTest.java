@@ -1,5 +1,3 @@
-import java.lang.reflect.Method;
-import java.lang.reflect.Modifier;
 import java.util.ArrayList;
 import java.util.HashMap;
 import java.util.List;
@@ -89,18 +87,11 @@ public final class EdgesTest {
     return calls.toArray(new Object[0][]);
   }
 
-  private static final Map<String, Method> FACE = new HashMap<>();
-
   private static int looked;
   private static int wrong;
 
   public static void main(String[] args) throws Exception {
-    for (Method method : Loopdefaults.class.getDeclaredMethods()) {
-      if (Modifier.isPublic(method.getModifiers())) {
-        FACE.put(method.getName(), method);
-      }
-    }
-    if (FACE.size() != CALLS.length) {
+    if (Face.all().size() != CALLS.length) {
       throw new IllegalStateException("a call is left out, or there twice");
     }
     look(EMPTY, 0, 0);
@@ -142,14 +133,14 @@ public final class EdgesTest {
       Object[][] ahead, String before, String thrown, String name, Object[] with)
       throws Exception {
     Loopdefaults x = (Loopdefaults) made(new Loopdefaults(), ahead);
-    Object got = ModelTest.answer(x, FACE.get(name), with);
+    Object got = Face.answer(x, Face.named(name), with);
     String call = name + List.of(with) + " behind " + ahead.length + " calls";
     if (thrown != null) {
       due(call, got, thrown);
       due(call + " leaves", Check.state(x), before);
     } else {
       Model model = (Model) made(new Model(), ahead);
-      due(call, got, ModelTest.answer(model, FACE.get(name), with));
+      due(call, got, Face.answer(model, Face.named(name), with));
       due(call + " leaves", Check.state(x), state(model));
     }
   }
@@ -168,7 +159,7 @@ public final class EdgesTest {
     for (Object[] call : ahead) {
       Object[] with = new Object[call.length - 1];
       System.arraycopy(call, 1, with, 0, with.length);
-      ModelTest.answer(on, FACE.get((String) call[0]), with);
+      Face.answer(on, Face.named((String) call[0]), with);
     }
     return on;
   }

@@ -1,9 +1,6 @@
-import java.lang.reflect.InvocationTargetException;
 import java.lang.reflect.Method;
-import java.lang.reflect.Modifier;
 import java.util.ArrayList;
 import java.util.Arrays;
-import java.util.Comparator;
 import java.util.List;
 
 /** Long runs of calls, the same on an object and on the model: each answer has to be the same. */
@@ -17,24 +14,13 @@ public final class ModelTest {
   private static int wrong;
 
   public static void main(String[] args) throws Exception {
-    List<Method> face = face();
+    List<Method> face = Face.all();
     for (int run = 0; run < RUNS && wrong < 20; run++) {
       seed = 7919L * run + 1;
       go(run, face);
     }
     System.out.println("ModelTest: " + looked + " answers, " + wrong + " wrong");
     System.exit(wrong > 0 || looked == 0 ? 1 : 0);
-  }
-
-  private static List<Method> face() {
-    List<Method> face = new ArrayList<>();
-    for (Method method : Loopdefaults.class.getDeclaredMethods()) {
-      if (Modifier.isPublic(method.getModifiers())) {
-        face.add(method);
-      }
-    }
-    face.sort(Comparator.comparing(Method::getName));
-    return face;
   }
 
   private static int below(int bound) {
@@ -52,8 +38,8 @@ public final class ModelTest {
       boolean isLook = call % LOOK_EVERY >= LOOK_EVERY - 9;
       Method method = isLook ? looks(call % LOOK_EVERY - (LOOK_EVERY - 9)) : chosen(face);
       Object[] with = isLook ? lookArguments(call % LOOK_EVERY - (LOOK_EVERY - 9)) : drawn(method, most);
-      Object want = answer(model, method, with);
-      Object got = answer(x, method, with);
+      Object want = Face.answer(model, method, with);
+      Object got = Face.answer(x, method, with);
       told.add(method.getName() + Arrays.toString(with) + " " + got);
       looked++;
       if (!want.equals(got)) {
@@ -83,16 +69,7 @@ public final class ModelTest {
   private static Method chosen(List<Method> face) {
     Method method = face.get(below(face.size()));
     boolean isRare = List.of("clear", "forgetCounts", "drop", "copy").contains(method.getName());
-    return isRare && below(3) > 0 ? chosenType(face) : method;
-  }
-
-  private static Method chosenType(List<Method> face) {
-    for (Method method : face) {
-      if (method.getName().equals("type")) {
-        return method;
-      }
-    }
-    throw new IllegalStateException();
+    return isRare && below(3) > 0 ? Face.named("type") : method;
   }
 
   private static Object[] drawn(Method method, int most) {
@@ -196,19 +173,6 @@ public final class ModelTest {
         return below(5) == 0 ? -1000 : below(2 * most + 1) - most;
       default:
         return below(2 * most + 1) - most;
-    }
-  }
-
-  /** What the call tells, or the name of what it throws; on may be an object or a model. */
-  static Object answer(Object on, Method method, Object[] with) throws Exception {
-    Method own =
-        on instanceof Model
-            ? Model.class.getDeclaredMethod(method.getName(), method.getParameterTypes())
-            : method;
-    try {
-      return own.invoke(on, with);
-    } catch (InvocationTargetException thrown) {
-      return thrown.getCause().getClass().getName();
     }
   }
 }
